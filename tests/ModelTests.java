@@ -70,7 +70,7 @@ public final class ModelTests {
             case 12: acts(); break;
             default:
                 if (r.nextInt(3) == 0) rest = text();
-                else mends();
+                else for (int i = r.nextInt(8); i >= 0; i--) mends();
         }
     }
 

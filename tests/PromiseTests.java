@@ -1178,6 +1178,31 @@ public final class PromiseTests {
         for (int i = 39; i >= 0; i--) due("redo", x.redo(), i);
         due("none", x.redo(), STATE);
         due("the latest", x.of(0, 9), 45);
+        mixed();
+    }
+
+    /** Changes of unlike kinds, of whom the oldest three are forgotten. */
+    private static void mixed() {
+        StarfishWatch x = sky(0, 1, 2);
+        int[][] all = new int[43][];
+        for (int i = 0; i < 43; i++) {
+            int what = new int[] {1, 9, 2, 10, 0, 11, 3}[i % 7], number = what < 4 ? i % 3 : 0;
+            int v = what == 0 ? 5 + i : what < 4 ? (x.of(number, what) + 3) % 9 + 1 : 100 + i;
+            all[i] = new int[] {number, what, x.of(number, what), v};
+            due("mend", x.mend(number, what, v), all[i][2]);
+        }
+        promise = 31;
+        for (int i = 42; i >= 3; i--) {
+            due("undo", x.undo(), i - 3);
+            due("it was", x.of(all[i][0], all[i][1]), all[i][2]);
+        }
+        due("none", x.undo(), STATE);
+        for (int i = 0; i < 3; i++) due("forgotten", x.of(all[i][0], all[i][1]), all[i][3]);
+        promise = 32;
+        for (int i = 3; i < 43; i++) {
+            due("redo", x.redo(), 42 - i);
+            due("it is", x.of(all[i][0], all[i][1]), all[i][3]);
+        }
     }
 
     private static void thirtyThree() {

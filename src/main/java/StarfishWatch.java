@@ -28,10 +28,11 @@ public final class StarfishWatch {
     private Law inForce, spare;
 
     public StarfishWatch() {
-        sky = new Sky();
-        fleet = new Fleet(sky);
-        chart = new Chart(sky);
-        finder = new Finder(sky);
+        Sky rock = new Sky();
+        sky = rock;
+        fleet = new Fleet(rock);
+        chart = new Chart(rock);
+        finder = new Finder(rock);
         plan = new Plan();
         tape = new Tape();
         changes = new Changes();
